@@ -30,6 +30,7 @@ public final class PromiseTests {
         promise17EndBatch();
         promise17PutsAllBack();
         promise17PutsBackWhatStood();
+        promise17NumbersAnew();
         promise18CloseMonth();
         promise19Reverse();
         promise19Refuses();
@@ -39,6 +40,8 @@ public final class PromiseTests {
         promise22Statement();
         promise23Tax();
         promise24Found();
+        fullLedger();
+        homeAsAccount0();
         CHECK.end();
     }
 
@@ -463,6 +466,7 @@ public final class PromiseTests {
             CHECK.is("plan " + plan, x.instal(HOME, 2), plan);
         }
         CHECK.is("eleventh plan", x.instal(HOME, 2), NONE);
+        CHECK.is("its part", x.due(10, 0), NONE);
         HouseLedger y = ledger();
         charge(y, 10, HOME, 5);
         y.payment(HOME, 5, 10);
@@ -661,6 +665,31 @@ public final class PromiseTests {
         CHECK.is("not reversed", x.reverse(1, 0), 4);
     }
 
+    private static void promise17NumbersAnew() {
+        CHECK.part("promise 17, numbers told anew");
+        HouseLedger x = ledger();
+        charge(x, 50, HOME, 10);
+        charge(x, 10, HOME, 20);
+        x.dun(HOME, 90);
+        x.batch();
+        charge(x, 5, HOME, 30);
+        CHECK.is("an older item", x.item(HOME, 0), 30);
+        CHECK.is("payment", x.payment(HOME, 55, 60), 3);
+        CHECK.is("plan", x.instal(HOME, 1), 0);
+        CHECK.is("step", x.dun(HOME, 104), 2);
+        x.endBatch(false);
+        CHECK.is("oldest item", x.item(HOME, 0), 20);
+        CHECK.is("next item", x.item(HOME, 1), 10);
+        CHECK.is("last item", x.item(HOME, 2), NONE);
+        CHECK.is("plan of as many as before", x.instal(HOME, 2), 0);
+        CHECK.is("its part", x.due(0, 0), 15);
+        CHECK.is("the step's day", x.dun(HOME, 104), 2);
+        CHECK.is("entry", charge(x, 70, OTHER, 40), 2);
+        CHECK.is("payment by another", x.payment(OTHER, 5, 60), 3);
+        CHECK.is("gave to its own", x.opened(3, 0), 20);
+        CHECK.is("and to no other", x.opened(3, 1), NONE);
+    }
+
     private static void promise18CloseMonth() {
         CHECK.part("promise 18");
         HouseLedger x = ledger();
@@ -709,6 +738,8 @@ public final class PromiseTests {
         x.entry(150);
         x.close(4);
         CHECK.is("an entry without rows", x.reverse(4, 3599), 5);
+        CHECK.is("not twice", x.reverse(4, 3599), NONE);
+        CHECK.is("nor its reversal", x.reverse(5, 3599), NONE);
     }
 
     private static void promise19Refuses() {
@@ -909,5 +940,57 @@ public final class PromiseTests {
         HouseLedger y = ledger();
         y.payment(9, 100000000L, 5);
         CHECK.is("the most cents", y.found(0), 100000000L);
+    }
+
+    private static void fullLedger() {
+        CHECK.part("all limits reached");
+        HouseLedger x = ledger();
+        for (int i = 4; i < 8; i++) {
+            x.account(2);
+        }
+        for (int entry = 0; entry < 39; entry++) {
+            x.entry(3510 + entry);
+            for (int row = 0; row < 5; row++) {
+                x.row(entry, HOME, 2);
+            }
+            x.row(entry, 7, -10);
+            x.close(entry);
+        }
+        x.rate(36, 1);
+        CHECK.is("payment", x.payment(HOME, 389, 3599), 39);
+        CHECK.is("gifts", x.opened(39, 194), 384);
+        CHECK.is("no more gifts", x.opened(39, 195), NONE);
+        CHECK.is("last item", x.item(HOME, 194), 1);
+        CHECK.is("no more items", x.item(HOME, 195), NONE);
+        CHECK.is("balance", x.balance(HOME, 3599), 1);
+        CHECK.is("tax of the last income account", x.tax(118), 9 * 10 * 19 / 100);
+        CHECK.is("statement", x.statement(7, 118, 8), 385);
+        CHECK.is("end of the statement", x.statement(7, 118, 9), NONE);
+        CHECK.is("interest", x.interest(HOME, 3599, 0), 21);
+        CHECK.is("dun", x.dun(HOME, 3599), 1);
+        CHECK.is("instal", x.instal(HOME, 24), 0);
+        CHECK.is("reverse", x.reverse(38, 3599), NONE);
+        CHECK.is("reverse entry 40", x.reverse(40, 3599), NONE);
+        CHECK.is("close entry 40", x.close(40), NONE);
+        CHECK.no("row of entry 40", x.row(40, HOME, 1));
+        CHECK.is("batch", x.batch(), 0);
+        CHECK.yes("put back", x.endBatch(false));
+        CHECK.is("last item as before", x.item(HOME, 194), 1);
+    }
+
+    private static void homeAsAccount0() {
+        CHECK.part("other orders of accounts");
+        HouseLedger x = new HouseLedger();
+        x.account(1);
+        x.account(2);
+        post(x, 5, 0, 1, 10);
+        CHECK.is("the item", x.item(0, 0), 10);
+        CHECK.is("rows that were not told are no items", x.item(0, 1), NONE);
+        CHECK.is("nor in a statement", x.statement(0, 0, 1), NONE);
+        HouseLedger y = new HouseLedger();
+        y.account(2);
+        y.account(1);
+        post(y, 5, 1, 0, 100);
+        CHECK.is("tax of income account 0", y.tax(0), 19);
     }
 }
