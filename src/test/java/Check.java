@@ -13,6 +13,10 @@ final class Check {
         part = name;
     }
 
+    int asked() {
+        return asked;
+    }
+
     void is(String call, long got, long want) {
         asked++;
         if (got != want) {

@@ -1,11 +1,6 @@
 /** Each promise of the document by itself: ordinary inputs, its edges, wrong inputs. */
-public final class PromiseTests {
-    private static final int NONE = HouseLedger.NONE;
+public final class PromiseTests extends LedgerTest {
     private static final Check CHECK = new Check("PromiseTests");
-    private static final int CASH = 0;
-    private static final int HOME = 1;
-    private static final int OTHER = 2;
-    private static final int INCOME = 3;
 
     public static void main(String[] args) {
         promise1NewObject();
@@ -43,43 +38,6 @@ public final class PromiseTests {
         fullLedger();
         homeAsAccount0();
         CHECK.end();
-    }
-
-    /** Accounts 0 cash, 1 and 2 households, 3 income. */
-    private static HouseLedger ledger() {
-        HouseLedger x = new HouseLedger();
-        x.account(0);
-        x.account(1);
-        x.account(1);
-        x.account(2);
-        return x;
-    }
-
-    private static int post(HouseLedger x, long day, int to, int from, long cents) {
-        int entry = x.entry(day);
-        x.row(entry, to, cents);
-        x.row(entry, from, -cents);
-        x.close(entry);
-        return entry;
-    }
-
-    private static int charge(HouseLedger x, long day, int home, long cents) {
-        return post(x, day, home, INCOME, cents);
-    }
-
-    private static boolean throwsAtClose(HouseLedger x, int entry) {
-        try {
-            x.close(entry);
-        } catch (IllegalArgumentException e) {
-            return true;
-        }
-        return false;
-    }
-
-    private static void closeMonths(HouseLedger x, int count) {
-        for (int month = 0; month < count; month++) {
-            x.closeMonth(month);
-        }
     }
 
     private static void promise1NewObject() {
@@ -812,15 +770,7 @@ public final class PromiseTests {
 
     private static void promise20InterestOfMuch() {
         CHECK.part("promise 20, much");
-        HouseLedger x = ledger();
-        for (int entry = 0; entry < 40; entry++) {
-            x.entry(0);
-            for (int row = 0; row < 3; row++) {
-                x.row(entry, HOME, 100000000L);
-                x.row(entry, INCOME, -100000000L);
-            }
-            x.close(entry);
-        }
+        HouseLedger x = richLedger(0);
         x.rate(100, 1);
         long centDays = 120L * 100000000L * 3569L;
         CHECK.is("whole", x.interest(HOME, 3599, 2), (centDays * 100 + 180) / 360);
