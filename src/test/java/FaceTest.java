@@ -41,6 +41,11 @@ public final class FaceTest {
         }
         for (Class<?> one : HouseLedger.class.getDeclaredClasses()) {
             CHECK.yes(one + " is static", Modifier.isStatic(one.getModifiers()));
+            CHECK.no(one + " is public or protected", Modifier.isPublic(one.getModifiers())
+                    || Modifier.isProtected(one.getModifiers()));
+            for (Method method : one.getDeclaredMethods()) {
+                CHECK.no(method + " bears a name of the face", names.contains(method.getName()));
+            }
         }
         CHECK.yes("shown " + shown + ", due is " + FACE, shown.equals(FACE));
         CHECK.end();
